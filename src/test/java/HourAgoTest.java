@@ -1,15 +1,5 @@
 /** One test per promise of the document: ordinary inputs, the edges that it names, and wrong inputs. */
-public final class HourAgoTest {
-    private static final int NONE = HourAgo.NONE, UNKNOWN = HourAgo.UNKNOWN, OUTSIDE = HourAgo.OUTSIDE,
-        STATE = HourAgo.STATE, FULL = HourAgo.FULL;
-    private static final int PERSON = 0, BLIND = 1, CHILD = 2, CLERK = 3, CAT = 4;
-    private static final int LEAST = Integer.MIN_VALUE, MOST = Integer.MAX_VALUE;
-    /** DOORS 0-1, 1-2, 2-3; THE LOW DOOR in 1, back 3; one sees between 0 and 2. */
-    private static final String HOUSE = "01,12,23;13;02";
-    private static final String TEN_DOORS = "01,02,03,04,05,12,13,14,15,23";
-
-    private static int wrong = 0;
-
+public final class HourAgoTest extends Bench {
     public static void main(String[] args) {
         promise1NewObject();
         promise2Letters();
@@ -42,10 +32,7 @@ public final class HourAgoTest {
         promise26Restore();
         promise27Count();
         promise28Digest();
-        System.out.println(wrong == 0 ? "all answers are as due" : wrong + " answers are not as due");
-        if (wrong != 0) {
-            System.exit(1);
-        }
+        finish();
     }
 
     private static void promise1NewObject() {
@@ -629,14 +616,6 @@ public final class HourAgoTest {
         due("24 nothing is kept", x.count(2), 0);
     }
 
-    private static long drawn(long seed, int times) {
-        long next = seed;
-        for (int i = 0; i < times; i++) {
-            next = (1103515245L * next + 12345L) % (1L << 31);
-        }
-        return next;
-    }
-
     private static void promise25Image() {
         HourAgo x = new HourAgo();
         due("25 no HOUSE", x.image(), STATE);
@@ -721,14 +700,6 @@ public final class HourAgoTest {
         due("28 nothing is changed", y.digest(), h);
     }
 
-    private static long mixed(long begun, long... numbers) {
-        long h = begun;
-        for (long number : numbers) {
-            h = 31 * h + number;
-        }
-        return h;
-    }
-
     private interface Row {
         long at(int what);
     }
@@ -738,55 +709,5 @@ public final class HourAgoTest {
         for (int i = 0; i < wants.length; i++) {
             due(call + ", what = " + (i - 1), row.at(i - 1), wants[i]);
         }
-    }
-
-    private static void due(String call, long got, long want) {
-        if (got != want) {
-            wrong++;
-            System.out.println(call + ": answered " + got + ", due is " + want);
-        }
-    }
-
-    private static HourAgo page(String text) {
-        HourAgo x = new HourAgo();
-        put(x, text);
-        return x;
-    }
-
-    private static HourAgo housed(String text) {
-        HourAgo x = page(text);
-        due("house " + text, x.house() > 0 ? 1 : 0, 1);
-        return x;
-    }
-
-    /** A PERSON with a LIFE through THE LOW DOOR, a CAT without one, a TASK, two GLIMPSES. */
-    private static HourAgo furnished() {
-        HourAgo x = housed(HOUSE);
-        alive(x, PERSON, "240.1t.");
-        x.person(CAT);
-        x.task(1, 23, 23);
-        x.glimpse(23, 1);
-        x.glimpse(24, 1);
-        return x;
-    }
-
-    private static void alive(HourAgo x, int kind, String life) {
-        int person = x.person(kind);
-        put(x, life);
-        due("life " + life, x.life(person) > 0 ? 1 : 0, 1);
-    }
-
-    private static void put(HourAgo x, String text) {
-        for (int i = 0; i < text.length(); i += 8) {
-            x.letters(packed(text.substring(i, Math.min(text.length(), i + 8))));
-        }
-    }
-
-    private static long packed(String text) {
-        long w = 0;
-        for (int i = 0; i < text.length(); i++) {
-            w |= (long) text.charAt(i) << 8 * i;
-        }
-        return w;
     }
 }
